@@ -106,8 +106,9 @@ public final class YawnTrain {
         if (number < 0 || number >= people.length) {
             return FULL;
         }
-        people[number] = newcomer(kind, number, slept, kin);
-        people[number].seat = c;
+        Person person = newcomer(kind, number, slept, kin);
+        person.seat = c;
+        people[number] = person;
         train.seatOne(c, number);
         ones = number + 1;
         return number;
@@ -235,11 +236,10 @@ public final class YawnTrain {
     }
 
     public int could(int l, int j) {
-        Law law = lawAt(l);
+        Law law = weighedLaw(l);
         if (law == null || !row.has(j)) {
             return UNKNOWN;
         }
-        weigh(law);
         int set = 0;
         for (int i = 0; i < row.count; i++) {
             if (sourceMight(law, j, i) > 0) {
@@ -250,14 +250,13 @@ public final class YawnTrain {
     }
 
     public long share(int l, int j, int i, int which) {
-        Law law = lawAt(l);
+        Law law = weighedLaw(l);
         if (law == null || !row.has(j) || i != NONE && !row.has(i)) {
             return LOST;
         }
         if (which != 0 && which != 1) {
             return LOST;
         }
-        weigh(law);
         int whole = wholeMight(law, j);
         if (whole <= 0) {
             return LOST;
@@ -267,16 +266,15 @@ public final class YawnTrain {
     }
 
     public int barred(int l) {
-        Law law = lawAt(l);
+        Law law = weighedLaw(l);
         return law == null ? UNKNOWN : firstBare(law);
     }
 
     public int trees(int l) {
-        Law law = lawAt(l);
+        Law law = weighedLaw(l);
         if (law == null) {
             return UNKNOWN;
         }
-        weigh(law);
         long product = 1;
         for (int j = 0; j < row.count; j++) {
             product = product * sourceCount(law, j) % TREES_MODULO;
@@ -285,7 +283,7 @@ public final class YawnTrain {
     }
 
     public int causes(int l, int x) {
-        Law law = lawAt(l);
+        Law law = weighedLaw(l);
         if (law == null || personAt(x) == null) {
             return UNKNOWN;
         }
@@ -293,7 +291,7 @@ public final class YawnTrain {
     }
 
     public int most(int l) {
-        Law law = lawAt(l);
+        Law law = weighedLaw(l);
         if (law == null) {
             return UNKNOWN;
         }
@@ -310,7 +308,7 @@ public final class YawnTrain {
     }
 
     public int goesOn(int l) {
-        Law law = lawAt(l);
+        Law law = weighedLaw(l);
         if (law == null) {
             return UNKNOWN;
         }
@@ -326,11 +324,10 @@ public final class YawnTrain {
     }
 
     public int chain(int l) {
-        Law law = lawAt(l);
+        Law law = weighedLaw(l);
         if (law == null) {
             return UNKNOWN;
         }
-        weigh(law);
         int longest = 0;
         for (int j = 0; j < row.count && j < chains.length; j++) {
             int ahead = 0;
@@ -346,7 +343,7 @@ public final class YawnTrain {
     }
 
     public int missed(int l, int what) {
-        Law law = lawAt(l);
+        Law law = weighedLaw(l);
         if (law == null) {
             return UNKNOWN;
         }
@@ -364,7 +361,7 @@ public final class YawnTrain {
 
     public int night(int l, int sheet, int lane, int i, int n) {
         latestFault = 0;
-        Law law = lawAt(l);
+        Law law = weighedLaw(l);
         if (law == null) {
             return UNKNOWN;
         }
@@ -385,12 +382,12 @@ public final class YawnTrain {
     }
 
     public int spread(int l) {
-        Law law = lawAt(l);
-        return law == null ? UNKNOWN : spreadNow(law);
+        Law law = weighedLaw(l);
+        return law == null ? UNKNOWN : weighedSpread();
     }
 
     public int blinds(int l, int k, int q) {
-        Law law = lawAt(l);
+        Law law = weighedLaw(l);
         if (law == null) {
             return UNKNOWN;
         }
@@ -406,7 +403,7 @@ public final class YawnTrain {
         }
         fillPlan(law);
         plan.search(Math.min(k, plan.free));
-        return q == -1 ? spreadNow(law) - plan.saved : plan.chosenGap(train, q);
+        return q == -1 ? weighedSpread() - plan.saved : plan.chosenGap(train, q);
     }
 
     public int parts(int l, int m, int what) {
@@ -661,18 +658,16 @@ public final class YawnTrain {
     }
 
     private int catchMight(Law law, Person taker, Person giver) {
-        if (sees(taker, giver)) {
-            return filmMight(law, taker, giver);
-        }
-        return unseenMight(law, taker, giver);
+        int strength = sees(taker, giver) ? law.number(SIGHT) : unseenStrength(law, taker, giver);
+        return takenMight(law, taker, giver, strength);
     }
 
-    private int filmMight(Law law, Person taker, Person giver) {
+    private int unseenStrength(Law law, Person taker, Person giver) {
+        return hears(taker, giver) ? law.number(EAR) : 0;
+    }
+
+    private static int filmMight(Law law, Person taker, Person giver) {
         return takenMight(law, taker, giver, law.number(SIGHT));
-    }
-
-    private int unseenMight(Law law, Person taker, Person giver) {
-        return hears(taker, giver) ? takenMight(law, taker, giver, law.number(EAR)) : 0;
     }
 
     private static int takenMight(Law law, Person taker, Person giver, int strength) {
@@ -682,8 +677,12 @@ public final class YawnTrain {
 
     // ---- sources of yawns
 
-    /** MIGHTS by a LAW into their rows, for what is asked of many YAWNS then. */
-    private void weigh(Law law) {
+    /** A LAW, with its MIGHTS in their rows for what is asked of many YAWNS; null, if there is none. */
+    private Law weighedLaw(int l) {
+        Law law = lawAt(l);
+        if (law == null) {
+            return null;
+        }
         for (int x = 0; x < ones && x < owns.length; x++) {
             Person taker = personAt(x);
             owns[x] = ownMight(law, taker);
@@ -695,6 +694,7 @@ public final class YawnTrain {
                 }
             }
         }
+        return law;
     }
 
     private int weighedOwn(int x) {
@@ -740,7 +740,6 @@ public final class YawnTrain {
     }
 
     private int firstBare(Law law) {
-        weigh(law);
         for (int j = 0; j < row.count; j++) {
             if (wholeMight(law, j) <= 0) {
                 return j;
@@ -751,7 +750,6 @@ public final class YawnTrain {
 
     /** CAUSES of all into their row; false, if some YAWN has no source. */
     private boolean sumCauses(Law law) {
-        weigh(law);
         for (int x = 0; x < caused.length; x++) {
             caused[x] = 0;
         }
@@ -781,7 +779,6 @@ public final class YawnTrain {
 
     /** Marks the YAWNS without a source: the first of them, or NONE. */
     private int markBare(Law law) {
-        weigh(law);
         int first = NONE;
         for (int j = 0; j < row.count && j < bare.length; j++) {
             bare[j] = wholeMight(law, j) <= 0;
@@ -840,7 +837,6 @@ public final class YawnTrain {
     }
 
     private int goOn(Law law, Sheet draws, int from, int minutes) {
-        weigh(law);
         int yawned = 0;
         int place = from;
         int firstMinute = row.count > 0 ? row.lastMinute() + 1 : 1;
@@ -860,8 +856,7 @@ public final class YawnTrain {
         return minute <= LAST_MINUTE && !row.isFull() && draw < mightAt(law, x, minute);
     }
 
-    private int spreadNow(Law law) {
-        weigh(law);
+    private int weighedSpread() {
         int sum = 0;
         for (int x = 0; x < ones; x++) {
             for (int y = 0; y < ones; y++) {
@@ -878,8 +873,8 @@ public final class YawnTrain {
                 Person taker = personAt(x);
                 Person giver = personAt(y);
                 if (taker != null && giver != null && sees(taker, giver)) {
-                    int worth = filmMight(law, taker, giver) - unseenMight(law, taker, giver);
-                    plan.addSight(train, taker.seat, giver.seat, worth);
+                    int unseen = takenMight(law, taker, giver, unseenStrength(law, taker, giver));
+                    plan.addSight(train, taker.seat, giver.seat, weighed(x, y) - unseen);
                 }
             }
         }
@@ -1028,7 +1023,6 @@ public final class YawnTrain {
         private boolean mirrors;
         private int seats;
 
-        @Override
         void begin() {
             stage = AT_C;
             rows = 0;
@@ -1037,7 +1031,6 @@ public final class YawnTrain {
             seats = 0;
         }
 
-        @Override
         boolean takes(int code) {
             switch (stage) {
                 case AT_C:
@@ -1087,7 +1080,6 @@ public final class YawnTrain {
             }
         }
 
-        @Override
         boolean isWhole() {
             return stage == AT_SEATS && seats == rows * wide;
         }
@@ -1108,7 +1100,6 @@ public final class YawnTrain {
         private int which;
         private int items;
 
-        @Override
         void begin() {
             stage = AT_LETTER;
             which = 0;
@@ -1119,7 +1110,6 @@ public final class YawnTrain {
             }
         }
 
-        @Override
         boolean takes(int code) {
             switch (stage) {
                 case AT_LETTER:
@@ -1176,12 +1166,16 @@ public final class YawnTrain {
             }
         }
 
-        @Override
         boolean isWhole() {
             return stage == AT_NEXT;
         }
 
-        int numberAt(int k) {
+        /** A NUMBER of the LAW that was read: TILL is FROM, if it is less. */
+        int lawNumber(int k) {
+            return k == TILL ? Math.max(readNumber(TILL), readNumber(FROM)) : readNumber(k);
+        }
+
+        private int readNumber(int k) {
             return k >= 0 && k < numbers.length ? numbers[k] : 0;
         }
     }
@@ -1191,10 +1185,7 @@ public final class YawnTrain {
 
         Law(LawText text) {
             for (int k = 0; k < numbers.length; k++) {
-                numbers[k] = text.numberAt(k);
-            }
-            if (TILL < numbers.length && numbers[TILL] < numbers[FROM]) {
-                numbers[TILL] = numbers[FROM];
+                numbers[k] = text.lawNumber(k);
             }
         }
 
@@ -1399,22 +1390,18 @@ public final class YawnTrain {
             super(number, slept, kin);
         }
 
-        @Override
         int kind() {
             return 1;
         }
 
-        @Override
         int takes(Law law, int strength, boolean sameKin) {
             return super.takes(law, strength, sameKin) * law.number(YOUNG) / 9;
         }
 
-        @Override
         int takesOwn(Law law, int strength) {
             return super.takesOwn(law, strength) * law.number(YOUNG) / 9;
         }
 
-        @Override
         int tells(YawnTrain home) {
             home.leave(2);
             return tellsAsPerson(home) + 100;
@@ -1426,24 +1413,20 @@ public final class YawnTrain {
             super(number, slept, kin);
         }
 
-        @Override
         int kind() {
             return 2;
         }
 
-        @Override
         int takes(Law law, int strength, boolean sameKin) {
             return sameKin ? super.takes(law, strength, true) : 0;
         }
 
-        @Override
         int tells(YawnTrain home) {
             home.leave(3);
             int child = super.tells(home);
             return child + tellsAsPerson(home);
         }
 
-        @Override
         int wakes(YawnTrain home) {
             home.leave(5);
             return 80;
