@@ -599,12 +599,14 @@ public final class ModelRuns {
 
     private static int wrong;
     private static long calls;
+    private static int spent;
     private static YawnTrain train;
     private static Model model;
     private static StringBuilder run;
 
     private static void same(String call, long got, long want) {
         calls++;
+        spent++;
         run.append(call).append(" -> ").append(got).append('\n');
         if (got != want) {
             wrong++;
@@ -623,6 +625,7 @@ public final class ModelRuns {
         same("sheet " + k + " " + lane + " " + n, train.sheet(k, lane, n), model.sheet(k, lane, n));
         for (int p = 0; p < text.length(); p++) {
             train.put(k, gap + p, text.charAt(p));
+            spent++;
             model.put(k, gap + p, text.charAt(p));
         }
         run.append("  text ").append(text).append(" from ").append(gap).append('\n');
@@ -689,6 +692,7 @@ public final class ModelRuns {
             int v = draw(40) == 0 ? WILD[draw(WILD.length)] : draw(2) == 0 ? draw(128) : 20 + draw(900);
             if (lane == 0 && v > 127) v = 127;
             train.put(k, p, v);
+            spent++;
             model.put(k, p, v);
         }
         int i = draw(3) == 0 ? some(n + 1) : 0;
@@ -846,7 +850,7 @@ public final class ModelRuns {
         }
     }
 
-    /** A run stays near the document's 512 calls, with those of put(), fault() and trace(). */
+    /** A run stays within the document's 512 calls: the dearest step, a NIGHT's 60 draws, takes fewer than 70. */
     private static void runOnce(int number) {
         seed = number * 1000003L + 17;
         for (int t = 0; t < 5; t++) draw(2);
@@ -854,9 +858,10 @@ public final class ModelRuns {
         model = new Model();
         run = new StringBuilder("run " + number + "\n");
         int style = number % 40 == 0 ? 2 : number % 4 == 1 ? 0 : 1;
+        spent = 0;
         begin(style);
-        long from = calls;
-        for (int t = 0; t < 200 && calls - from < 330; t++) callOne(style);
+        while (spent < 440) callOne(style);
+        if (spent > 512) throw new IllegalStateException("run " + number + " makes " + spent + " calls");
     }
 
     public static void main(String[] args) {
