@@ -6,6 +6,7 @@ public final class YawnTrain {
     private static final int NULL = 1, CAST = 2, INDEX = 3, SIZE = 4;
     private static final int MOST_SHEETS = 4, MOST_CELLS = 60;
     private static final int MOST_SEATS = 32, MOST_GAPS = 52, GAP_NUMBERS = 64;
+    private static final int SEATS_0_TO_30 = 0x7fffffff;
     private static final int MOST_ONES = 12, MOST_LAWS = 6, MOST_YAWNS = 24, MOST_BLINDS = 3;
     private static final int LAST_MINUTE = 599, LAST_DRAW = 999;
     private static final int OWN = 0, SIGHT = 1, EAR = 2, KIN = 3, YOUNG = 4, FROM = 5, TILL = 6;
@@ -66,7 +67,7 @@ public final class YawnTrain {
                 return train.sitterOf(c);
             case 2:
                 // SEAT 31 would be the sign: the set is told of SEATS 0 .. 30.
-                return train.lineOf(c) & Integer.MAX_VALUE;
+                return train.lineOf(c) & SEATS_0_TO_30;
             default:
                 return OUTSIDE;
         }
